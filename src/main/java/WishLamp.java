@@ -2,7 +2,7 @@
  * A lamp whose spirit does each wish to the letter.
  *
  * A set of worlds is one long: bit w stands for world w. There are 64 worlds at most, so a clause, the law
- * and all that keeps a wish are one number each, and no call makes an object.
+ * and all that keeps a wish are one number each, and no call but image makes an object (two in all).
  */
 public final class WishLamp {
     public static final int NONE = -6, UNKNOWN = -1, OUTSIDE = -2, STATE = -3, FULL = -4, NO = -5;
@@ -20,6 +20,8 @@ public final class WishLamp {
     private static final int FAR = 1000;
     /** Above every term's number, so that words come first in a rank. */
     private static final int RANK_STEP = 1000;
+    /** Above twice what a world can be worth to all together (216), so that votes come first. */
+    private static final int VOTE_STEP = 1000;
     /** Longs for one bit a taste. */
     private static final int FIT_LONGS = 12;
     private static final int[] POWERS = {1, 3, 9, 27, 81, 243, 729};
@@ -35,7 +37,6 @@ public final class WishLamp {
 
     private final State state = new State();
     private final State[] images = new State[IMAGES];
-    private final boolean[] imaged = new boolean[IMAGES];
     private final Clause pad = new Clause();
     private final Clause changed = new Clause();
     private final Terms terms = new Terms();
@@ -46,9 +47,8 @@ public final class WishLamp {
     private final int[] spare = new int[MOST_WORLDS];
 
     public WishLamp() {
-        for (int i = 0; i < IMAGES; i++) {
-            images[i] = new State();
-        }
+        state.begin(FIRST_THINGS);
+        terms.listFor(FIRST_THINGS);
     }
 
     // ---- 1 worlds, clauses
@@ -59,6 +59,7 @@ public final class WishLamp {
         }
         int was = state.things;
         state.begin(n);
+        terms.listFor(n);
         return was;
     }
 
@@ -255,11 +256,11 @@ public final class WishLamp {
     // ---- 3 terms, rows
 
     public int term(int number) {
-        if (number < 0 || number >= state.termCount()) {
+        if (number < 0 || number >= terms.count) {
             return OUTSIDE;
         }
         spirit.ready();
-        return spirit.ofTerm(number * state.scale(), state.here);
+        return spirit.ofTerm(number, state.here);
     }
 
     public int wording(int goal, int what) {
@@ -268,8 +269,7 @@ public final class WishLamp {
         }
         spirit.ready();
         best.clear();
-        int scale = state.scale();
-        for (int t = 0; t < MOST_TERMS; t += scale) {
+        for (int t = 0; t < terms.count; t++) {
             int made = spirit.ofTerm(t, state.here);
             if (made >= 0 && spirit.worths[made] >= goal) {
                 best.offer(0, terms.rankOf(t));
@@ -278,7 +278,7 @@ public final class WishLamp {
         if (!best.found) {
             return NONE;
         }
-        return what == 0 ? numberIn(best.rank) : best.rank / RANK_STEP;
+        return what == 0 ? best.rank % RANK_STEP : best.rank / RANK_STEP;
     }
 
     public int most(int words, int what) {
@@ -287,8 +287,7 @@ public final class WishLamp {
         }
         spirit.ready();
         best.clear();
-        int scale = state.scale();
-        for (int t = 0; t < MOST_TERMS; t += scale) {
+        for (int t = 0; t < terms.count; t++) {
             int made = terms.wordsOf(t) <= words ? spirit.ofTerm(t, state.here) : NONE;
             if (made >= 0) {
                 best.offer(spirit.worths[made], terms.rankOf(t));
@@ -297,7 +296,7 @@ public final class WishLamp {
         if (!best.found) {
             return NONE;
         }
-        return what == 0 ? best.value + LIFT : numberIn(best.rank);
+        return what == 0 ? best.value + LIFT : best.rank % RANK_STEP;
     }
 
     public int row(int k, int words, int what) {
@@ -352,8 +351,7 @@ public final class WishLamp {
         spirit.ready();
         best.clear();
         fillMerits();
-        int scale = state.scale();
-        for (int t = 0; t < MOST_TERMS; t += scale) {
+        for (int t = 0; t < terms.count; t++) {
             int made = spirit.ofTerm(t, state.here);
             if (made >= 0) {
                 best.offer(values[made], terms.rankOf(t));
@@ -362,7 +360,7 @@ public final class WishLamp {
         if (!best.found) {
             return NONE;
         }
-        return what == 0 ? numberIn(best.rank) : best.value / FAR;
+        return what == 0 ? best.rank % RANK_STEP : best.value / VOTE_STEP;
     }
 
     public int paid() {
@@ -398,8 +396,8 @@ public final class WishLamp {
             return FULL;
         }
         // What is picked is judged at once: later tellings need no more than the tastes that are left.
-        for (int number = 0; number < state.termCount(); number++) {
-            if (state.canFit(number) && !terms.tasteTakes(number * state.scale(), worlds, world)) {
+        for (int number = 0; number < terms.count; number++) {
+            if (state.canFit(number) && !terms.tasteTakes(number, worlds, world)) {
                 state.ruleOut(number);
             }
         }
@@ -408,13 +406,23 @@ public final class WishLamp {
     }
 
     public int fit(int thing) {
+        if (thing < -2 || thing >= state.things) {
+            return UNKNOWN;
+        }
+        int count = 0;
+        int least = NONE;
+        int digits = 0;
+        for (int number = terms.count - 1; number >= 0; number--) {
+            if (state.canFit(number)) {
+                count++;
+                least = number;
+                digits |= thing < 0 ? 0 : 1 << terms.digitOf(number, thing);
+            }
+        }
         if (thing == -1) {
-            return state.fitCount();
+            return count;
         }
-        if (thing == -2) {
-            return state.leastFit();
-        }
-        return isThing(thing) ? state.fitDigits(thing) : UNKNOWN;
+        return thing == -2 ? least : digits;
     }
 
     public int came(int from, int to) {
@@ -438,8 +446,7 @@ public final class WishLamp {
         spirit.ready();
         best.clear();
         int count = 0;
-        int scale = state.scale();
-        for (int t = 0; t < MOST_TERMS; t += scale) {
+        for (int t = 0; t < terms.count; t++) {
             if (spirit.didAll(t)) {
                 count++;
                 best.offer(0, terms.rankOf(t));
@@ -448,7 +455,7 @@ public final class WishLamp {
         if (what == 0) {
             return count;
         }
-        return best.found ? numberIn(best.rank) : NONE;
+        return best.found ? best.rank % RANK_STEP : NONE;
     }
 
     public int forget() {
@@ -507,7 +514,7 @@ public final class WishLamp {
         int harms = 0;
         for (int i = 0; i < m; i++) {
             x = (75 * x + 74) % 65537;
-            int made = spirit.ofTerm(x % state.termCount() * state.scale(), world);
+            int made = spirit.ofTerm(x % terms.count, world);
             if (made < 0) {
                 voids++;
             } else {
@@ -525,8 +532,12 @@ public final class WishLamp {
         if (n < 0 || n >= IMAGES) {
             return OUTSIDE;
         }
-        images[n].copyFrom(state);
-        imaged[n] = true;
+        State image = images[n];
+        if (image == null) {
+            image = new State();
+            images[n] = image;
+        }
+        image.copyFrom(state);
         return 1;
     }
 
@@ -534,10 +545,12 @@ public final class WishLamp {
         if (n < 0 || n >= IMAGES) {
             return OUTSIDE;
         }
-        if (!imaged[n]) {
+        State image = images[n];
+        if (image == null) {
             return STATE;
         }
-        state.copyFrom(images[n]);
+        state.copyFrom(image);
+        terms.listFor(state.things);
         return 1;
     }
 
@@ -548,19 +561,19 @@ public final class WishLamp {
         if (what < 10) {
             return toldPlain(what);
         }
-        int row = what / 10;
-        int column = what % 10;
-        if (row == 1) {
-            return isThing(column) ? state.tastes[column] + LIFT : OUTSIDE;
+        int tens = what / 10;
+        int ones = what % 10;
+        if (tens == 1) {
+            return isThing(ones) ? state.tastes[ones] + LIFT : OUTSIDE;
         }
-        if (row == 2) {
-            return isCousin(column) ? state.shares[column] : OUTSIDE;
+        if (tens == 2) {
+            return isCousin(ones) ? state.shares[ones] : OUTSIDE;
         }
-        int cousin = row - 3;
-        if (!isCousin(cousin) || !isThing(column)) {
+        int cousin = tens - 3;
+        if (!isCousin(cousin) || !isThing(ones)) {
             return OUTSIDE;
         }
-        return state.worths[cousin * MOST_THINGS + column] + LIFT;
+        return state.worths[cousin * MOST_THINGS + ones] + LIFT;
     }
 
     // ---- what the calls above are made of
@@ -640,7 +653,7 @@ public final class WishLamp {
             for (int c = 0; c < COUSINS; c++) {
                 together += state.worthTo(c, w);
             }
-            values[w] = votesFor(w) * FAR + FAR / 2 + together;
+            values[w] = votesFor(w) * VOTE_STEP + VOTE_STEP / 2 + together;
         }
     }
 
@@ -670,10 +683,6 @@ public final class WishLamp {
         return pad.signs[place] == '-' ? 0 : JOINTS[order];
     }
 
-    private int numberIn(int rank) {
-        return rank % RANK_STEP / state.scale();
-    }
-
     /** Each world's value becomes that of the world that comes out when a wish is drawn up there. */
     private void follow(int[] ends) {
         for (int w = 0; w < MOST_WORLDS; w++) {
@@ -687,7 +696,7 @@ public final class WishLamp {
             return values[draw.worlds[state.here]] + LIFT;
         }
         int rank = draw.ranks[state.here];
-        return rank < 0 ? NONE : numberIn(rank);
+        return rank < 0 ? NONE : rank % RANK_STEP;
     }
 
     private static long partOf(int upper, int lower, int part) {
@@ -716,7 +725,8 @@ public final class WishLamp {
     }
 
     private static int lowestOf(long worlds) {
-        return Long.bitCount((worlds & -worlds) - 1L) & MOST_WORLDS - 1;
+        // The mask is for the set of no worlds, of which nobody asks.
+        return Long.bitCount((worlds & -worlds) - 1L) & (MOST_WORLDS - 1);
     }
 
     /** The sum over what is so, for each world, from the world with one thing less. */
@@ -724,7 +734,7 @@ public final class WishLamp {
         sums[0] = 0;
         for (int w = 1; w < MOST_WORLDS; w++) {
             int thing = Integer.bitCount((w & -w) - 1);
-            sums[w] = sums[w & w - 1] + sign * each[first + thing];
+            sums[w] = sums[w & (w - 1)] + sign * each[first + thing];
         }
     }
 
@@ -765,10 +775,6 @@ public final class WishLamp {
         final int[] cameTo = new int[MOST_SIGHTS];
         int cameCount;
 
-        State() {
-            begin(FIRST_THINGS);
-        }
-
         void begin(int n) {
             things = n;
             here = 0;
@@ -795,7 +801,7 @@ public final class WishLamp {
             for (int i = 0; i < FIT_LONGS; i++) {
                 fitting[i] = 0L;
             }
-            for (int number = 0; number < termCount(); number++) {
+            for (int number = 0; number < POWERS[things]; number++) {
                 fitting[number >> 6] |= 1L << (number & 63);
             }
         }
@@ -825,15 +831,6 @@ public final class WishLamp {
 
         long allWorlds() {
             return things >= MOST_THINGS ? -1L : (1L << worldCount()) - 1L;
-        }
-
-        int termCount() {
-            return POWERS[things];
-        }
-
-        /** A term of these things, times this, is the term of six things that says the same. */
-        int scale() {
-            return POWERS[MOST_THINGS - things];
         }
 
         int worthTo(int cousin, int world) {
@@ -870,34 +867,6 @@ public final class WishLamp {
 
         void ruleOut(int number) {
             fitting[number >> 6] &= ~(1L << (number & 63));
-        }
-
-        int fitCount() {
-            int count = 0;
-            for (int i = 0; i < FIT_LONGS; i++) {
-                count += Long.bitCount(fitting[i]);
-            }
-            return count;
-        }
-
-        int leastFit() {
-            for (int number = 0; number < termCount(); number++) {
-                if (canFit(number)) {
-                    return number;
-                }
-            }
-            return NONE;
-        }
-
-        int fitDigits(int thing) {
-            int digits = 0;
-            int power = POWERS[things - 1 - thing];
-            for (int number = 0; number < termCount(); number++) {
-                if (canFit(number)) {
-                    digits |= 1 << number / power % 3;
-                }
-            }
-            return digits;
         }
     }
 
@@ -1013,30 +982,46 @@ public final class WishLamp {
         }
     }
 
-    /** The terms of six things: fewer things leave the last digits 0, so that one table serves all. */
+    /** What each term says, by its number. */
     private static final class Terms {
+        int count;
         final int[] said = new int[MOST_TERMS];
         final int[] so = new int[MOST_TERMS];
+        /** The worlds that are as it says, of all that six things would have. */
         final long[] worlds = new long[MOST_TERMS];
         /** For a set of things, the term that says of each that it is so. */
         private final int[] weights = new int[MOST_WORLDS];
 
-        Terms() {
-            for (int w = 1; w < MOST_WORLDS; w++) {
-                int thing = Integer.bitCount((w & -w) - 1);
-                weights[w] = weights[w & w - 1] + POWERS[MOST_THINGS - 1 - thing];
+        void listFor(int things) {
+            if (things < LEAST_THINGS || things > MOST_THINGS || count == POWERS[things]) {
+                return;
             }
-            for (int t = 0; t < MOST_TERMS; t++) {
-                worlds[t] = -1L;
-                for (int i = 0; i < MOST_THINGS; i++) {
-                    int digit = t / POWERS[MOST_THINGS - 1 - i] % 3;
-                    if (digit != 0) {
-                        said[t] |= 1 << i;
-                        so[t] |= digit == 1 ? 1 << i : 0;
-                        worlds[t] &= digit == 1 ? SO[i] : ~SO[i];
-                    }
+            count = POWERS[things];
+            said[0] = 0;
+            so[0] = 0;
+            worlds[0] = -1L;
+            for (int i = 0; i < things; i++) {
+                // From the last one back, as each one's stem is still that of one thing less then.
+                for (int t = POWERS[i + 1] - 1; t >= 0; t--) {
+                    int stem = t / 3;
+                    int digit = t % 3;
+                    said[t] = said[stem] | (digit != 0 ? 1 << i : 0);
+                    so[t] = so[stem] | (digit == 1 ? 1 << i : 0);
+                    worlds[t] = worlds[stem] & (digit == 0 ? -1L : digit == 1 ? SO[i] : ~SO[i]);
                 }
             }
+            for (int t = 0; t < count; t++) {
+                if (said[t] == so[t]) {
+                    weights[so[t]] = t;
+                }
+            }
+        }
+
+        int digitOf(int number, int thing) {
+            if ((said[number] >> thing & 1) == 0) {
+                return 0;
+            }
+            return (so[number] >> thing & 1) != 0 ? 1 : 2;
         }
 
         int wordsOf(int term) {
@@ -1116,7 +1101,7 @@ public final class WishLamp {
             int said = terms.said[term];
             if (state.still < state.things - Integer.bitCount(said)) {
                 // All these worlds agree in what is said: they are as far from this aim as the rest has stirred.
-                int aim = from & ~said | terms.so[term];
+                int aim = (from & ~said) | terms.so[term];
                 worlds &= movedBy(FEW[state.still], aim);
             }
             return worlds;
