@@ -768,7 +768,7 @@ public final class WishLamp {
         final int[] shares = new int[COUSINS];
         final int[] past = new int[MOST_PAST];
         int pastCount;
-        /** One bit a taste: whether all that was picked is so by it. */
+        /** One bit a taste: whether all that was picked is so by it (bits of tastes that there are not mean nothing). */
         final long[] fitting = new long[FIT_LONGS];
         int pickedCount;
         final int[] cameFrom = new int[MOST_SIGHTS];
@@ -799,10 +799,7 @@ public final class WishLamp {
             pickedCount = 0;
             cameCount = 0;
             for (int i = 0; i < FIT_LONGS; i++) {
-                fitting[i] = 0L;
-            }
-            for (int number = 0; number < POWERS[things]; number++) {
-                fitting[number >> 6] |= 1L << (number & 63);
+                fitting[i] = -1L;
             }
         }
 

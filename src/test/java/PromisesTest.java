@@ -287,6 +287,11 @@ public final class PromisesTest {
         due("if a, b", x.kept(1), 2);
         wish(x, "^a&bc");
         due("just one: 1, 3, 5, 6, ..", x.kept(3), 6);
+        wish(x, "=ab");
+        due("both or none", x.kept(0), 0);
+        due("both or none", x.kept(1), 3);
+        wish(x, "^ab");
+        due("just one", x.kept(1), 2);
         x.set(2, 0);
         wish(x, "a");
         due("all else is still", x.kept(-1), 1);
@@ -569,6 +574,23 @@ public final class PromisesTest {
         due("c, d", x.row(1, 2, 1), 4);
         due("then a, no b", x.row(2, 2, 0), 1005);
         due("c, d first", x.row(2, 2, 1), 4);
+        WishLamp y = lamp(6);
+        y.worth(0, 5, 9);
+        y.worth(0, 4, -9);
+        due("f or not e: the least number", y.row(1, 1, 1), 1);
+        due("neither is enough", y.row(1, 1, 0), 1000);
+        due("nothing is worse", y.row(1, 0, 0), 991);
+        due("f, not e", y.row(1, 2, 0), 1009);
+        due("f, not e", y.row(1, 6, 1), 7);
+        due("the last is enough", y.row(3, 6, 0), 1009);
+        due("the last is enough", y.row(3, 6, 1), 0);
+        y.set(2, 0);
+        y.now(63);
+        due("not e", y.row(1, 1, 0), 1009);
+        due("not e", y.row(3, 1, 0), 1009);
+        due("not e", y.row(1, 6, 1), 6);
+        y.set(2, 1);
+        due("not e, and f goes", y.row(1, 1, 0), 1000);
     }
 
     private static void promise23() {
@@ -596,6 +618,23 @@ public final class PromisesTest {
         x.set(1, 2);
         due("the wisher now", x.lamps(2, 1, 0), UNKNOWN);
         due("the other", x.lamps(0, 1, 1), NONE);
+        WishLamp y = lamp(6);
+        y.worth(0, 5, 9);
+        y.worth(0, 4, -9);
+        y.worth(1, 4, 1);
+        y.set(2, 0);
+        y.now(63);
+        due("1 does e again", y.lamps(1, 1, 0), 1000);
+        due("nothing helps", y.lamps(1, 1, 1), 0);
+        due("2 lets it be", y.lamps(2, 6, 0), 1009);
+        due("not e", y.lamps(2, 6, 1), 6);
+        // b is worth as much to 1 as e: of one word b (81) or e (3), e is the least number
+        y.now(32);
+        y.worth(1, 1, 1);
+        due("e", y.lamps(1, 1, 0), 1000);
+        y.worth(1, 5, 1);
+        due("not f, and 1 does f again, not e: the least number", y.lamps(1, 1, 0), 1009);
+        due("not f", y.lamps(1, 1, 1), 2);
     }
 
     private static void promise24() {
@@ -606,6 +645,10 @@ public final class PromisesTest {
         due("too few", x.sixths(1, 1, 1, 2), OUTSIDE);
         due("less than none", x.sixths(7, -1, 0, 0), OUTSIDE);
         due("less than none", x.sixths(4, 3, -1, 0), OUTSIDE);
+        due("one less than none", x.sixths(-1, 6, 1, 0), OUTSIDE);
+        due("one less than none", x.sixths(6, -1, 1, 0), OUTSIDE);
+        due("one less than none", x.sixths(1, 6, -1, 0), OUTSIDE);
+        due("one less than none", x.sixths(1, 6, 0, -1), OUTSIDE);
         due("wraps round", x.sixths(Integer.MAX_VALUE, Integer.MAX_VALUE, 6, 2), OUTSIDE);
         due("nothing changed", x.told(20), 1);
         due("sixths", x.sixths(0, 0, 0, 6), 1);
@@ -670,6 +713,11 @@ public final class PromisesTest {
         due("nobody gains", x.paid(), NONE);
         x.sixths(0, 0, 0, 6);
         due("nobody gains, nobody loses", x.paid(), 0);
+        x.now(1);
+        x.sixths(3, 3, 0, 0);
+        wish(x, "&-a-b");
+        due("the world of nothing", x.makes(), 0);
+        due("1 pays 0", x.paid(), 5);
     }
 
     private static void promise28() {
@@ -723,6 +771,13 @@ public final class PromisesTest {
         due("none", x.fit(-1), 0);
         due("none", x.fit(-2), NONE);
         due("none", x.fit(0), 0);
+        x.forget();
+        wish(x, "&=ab&=bc=cd");
+        x.picked(0);
+        due("all or none: none", x.fit(-1), 50);
+        x.forget();
+        x.picked(15);
+        due("all or none: all", x.fit(-1), 31);
         due("of six", lamp(6).fit(-1), 729);
         due("of two", lamp(2).fit(2), UNKNOWN);
     }
@@ -907,6 +962,22 @@ public final class PromisesTest {
         due("now", x.told(2), 3);
         due("restore(0)", x.restore(0), STATE);
         due("another one", new WishLamp().restore(1), STATE);
+        x.now(9);
+        wish(x, "1");
+        due("grant", x.grant(), 2);
+        x.forget();
+        x.came(5, 3);
+        letters = x.letters(0);
+        x.image(0);
+        x.undo();
+        x.now(2);
+        x.forget();
+        wish(x, "1");
+        x.grant();
+        x.came(1, 1);
+        x.restore(0);
+        due("the same terms", x.letters(0), letters);
+        due("undo", x.undo(), 9);
     }
 
     private static void promise38() {
