@@ -177,14 +177,9 @@ public final class WishLamp {
     }
 
     public int extreme(int cousin, int which, int what) {
-        if (!isCousin(cousin)) {
-            return UNKNOWN;
-        }
-        if (!isBit(which) || !isBit(what)) {
-            return OUTSIDE;
-        }
-        if (isFaulty()) {
-            return NO;
+        int refusal = refusalOf(isCousin(cousin), isBit(which) && isBit(what));
+        if (refusal < 0) {
+            return refusal;
         }
         int sign = which == 0 ? 1 : -1;
         fillSums(state.worths, cousin * MOST_THINGS, sign, values);
@@ -465,36 +460,20 @@ public final class WishLamp {
     }
 
     public long drunk(int thing, int part) {
-        if (!isThing(thing)) {
-            return LOST + UNKNOWN;
-        }
-        if (!isBit(part)) {
-            return LOST + OUTSIDE;
-        }
-        if (isFaulty()) {
-            return LOST + NO;
+        int refusal = refusalOf(isThing(thing), isBit(part));
+        if (refusal < 0) {
+            return LOST + refusal;
         }
         long worlds = wishWorlds();
-        if (worlds == 0L) {
-            return LOST + STATE;
-        }
         return partOf(Long.bitCount(worlds & SO[thing]), Long.bitCount(worlds), part);
     }
 
     public long mean(int cousin, int part) {
-        if (!isCousin(cousin)) {
-            return LOST + UNKNOWN;
-        }
-        if (!isBit(part)) {
-            return LOST + OUTSIDE;
-        }
-        if (isFaulty()) {
-            return LOST + NO;
+        int refusal = refusalOf(isCousin(cousin), isBit(part));
+        if (refusal < 0) {
+            return LOST + refusal;
         }
         long worlds = wishWorlds();
-        if (worlds == 0L) {
-            return LOST + STATE;
-        }
         int count = Long.bitCount(worlds);
         int sum = LIFT * count;
         for (int i = 0; i < MOST_THINGS; i++) {
@@ -623,6 +602,20 @@ public final class WishLamp {
 
     private long wishWorlds() {
         return pad.worldsFrom(state.here) & state.law & state.stillWorlds(pad.saidThings(), state.here);
+    }
+
+    /** Why a call about the wish on the pad is refused, in the document's order; 0 if it is not. */
+    private int refusalOf(boolean isKnown, boolean isInside) {
+        if (!isKnown) {
+            return UNKNOWN;
+        }
+        if (!isInside) {
+            return OUTSIDE;
+        }
+        if (isFaulty()) {
+            return NO;
+        }
+        return wishWorlds() == 0L ? STATE : 0;
     }
 
     /** What the spirit makes of the wish on the pad; NO or STATE where it makes nothing. */
@@ -768,7 +761,7 @@ public final class WishLamp {
         final int[] shares = new int[COUSINS];
         final int[] past = new int[MOST_PAST];
         int pastCount;
-        /** One bit a taste: whether all that was picked is so by it (bits of tastes that there are not mean nothing). */
+        /** One bit a taste: whether all that was picked is so by it. Bits beyond the last taste mean nothing. */
         final long[] fitting = new long[FIT_LONGS];
         int pickedCount;
         final int[] cameFrom = new int[MOST_SIGHTS];

@@ -372,6 +372,9 @@ public final class PromisesTest {
         x.set(0, 1);
         x.set(1, 3);
         due("by no way", x.extreme(0, 0, 1), 2);
+        wish(x, "1");
+        due("best for 1 is the world of nothing", x.extreme(1, 1, 1), 0);
+        due("best for 1 is the world of nothing", x.extreme(1, 1, 0), 1000);
     }
 
     private static void promise15() {
@@ -388,6 +391,9 @@ public final class PromisesTest {
         due("0, 2, 3 are", x.harmed(), 13);
         x.now(2);
         due("not worse than now", x.harmed(), 0);
+        x.now(1);
+        wish(x, "&-a-b");
+        due("the world of nothing harms 0", x.harmed(), 1);
     }
 
     private static void promise16() {
@@ -457,6 +463,8 @@ public final class PromisesTest {
         commaIs(x, "--b", 0, 0, 1000);
         commaIs(x, "-1", 0, 0, 997);
         commaIs(x, "-0", NONE, NONE, NONE);
+        wish(x, "a-");
+        commaIs(x, "a", NONE, NONE, NONE);
         commaIs(x, "&a--b", 2, 0, 1005);
         commaIs(x, "-&a-b", 0, 0, 1005);
         // if b, not b: so not b
@@ -546,6 +554,10 @@ public final class PromisesTest {
         due("two", x.most(2, 1), 36);
         x.now(3);
         due("none", x.most(0, 0), 1002);
+        x.things(4);
+        x.worth(0, 0, -1);
+        due("not a: the world of nothing", x.most(1, 0), 1000);
+        due("not a: the world of nothing", x.most(1, 1), 54);
         law(x, "0");
         due("all void", x.most(6, 0), NONE);
     }
@@ -668,6 +680,10 @@ public final class PromisesTest {
         due("as now: nobody gains", x.votes(), 0);
         wish(x, "-a");
         due("1 gains", x.votes(), 2);
+        x.worth(0, 0, -1);
+        wish(x, "&-a-b");
+        due("the world of nothing", x.makes(), 0);
+        due("all but 2 gain", x.votes(), 3);
     }
 
     private static void promise26() {
@@ -685,6 +701,12 @@ public final class PromisesTest {
         x.worth(2, 3, 1);
         due("2 and one more", x.agreed(1), 5);
         due("a, not b, d", x.agreed(0), 46);
+        x.things(4);
+        due("all is one: no words", x.agreed(0), 0);
+        x.worth(0, 0, -1);
+        x.now(1);
+        due("not a: the world of nothing", x.agreed(0), 54);
+        due("all votes", x.agreed(1), 6);
         law(x, "0");
         due("void", x.agreed(0), NONE);
         due("void", x.agreed(1), NONE);
@@ -966,8 +988,10 @@ public final class PromisesTest {
         wish(x, "1");
         due("grant", x.grant(), 2);
         x.forget();
+        x.set(2, 0);
         x.came(5, 3);
         letters = x.letters(0);
+        due("b, not c; a, not d or not said", letters, 4);
         x.image(0);
         x.undo();
         x.now(2);
