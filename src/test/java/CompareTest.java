@@ -238,6 +238,10 @@ public final class CompareTest {
             due("things(" + n + ")", lamp.things(n), slow.things(n));
             things = n;
         }
+        if (draws.nextInt(2) == 0) {
+            int still = in(0, 3);
+            due("set(2," + still + ")", lamp.set(2, still), slow.set(2, still));
+        }
         for (int i = 0; i < CALLS && calls < CALLS - 30 && !failed; i++) {
             switch (in(0, 7)) {
                 case 0:

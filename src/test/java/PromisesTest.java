@@ -315,6 +315,13 @@ public final class PromisesTest {
         wish(x, "1");
         due("all", x.kept(-1), 64);
         due("last", x.kept(63), 63);
+        x.set(2, 0);
+        String[] signs = {"&ab", "|ab", ">ab", "=ab", "^ab", "-a", "~a", "0", "1", "&b~b"};
+        int[] few = {1, 3, 3, 2, 2, 1, 1, 0, 1, 0};
+        for (int i = 0; i < signs.length; i++) {
+            wish(x, signs[i]);
+            due("letters alone say: " + signs[i], x.kept(-1), few[i]);
+        }
     }
 
     private static void promise13() {
@@ -801,6 +808,12 @@ public final class PromisesTest {
         x.picked(15);
         due("all or none: all", x.fit(-1), 31);
         due("of six", lamp(6).fit(-1), 729);
+        WishLamp y = lamp(6);
+        wish(y, "1");
+        y.picked(63);
+        due("all six are liked", y.fit(-1), 1);
+        due("all six are liked", y.fit(-2), 728);
+        due("all six are liked", y.fit(5), 4);
         due("of two", lamp(2).fit(2), UNKNOWN);
     }
 
