@@ -487,13 +487,15 @@ public final class WishLamp {
             return OUTSIDE;
         }
         spirit.ready();
+        // There are terms always; a divisor is looked at all the same.
+        int count = terms.count > 0 ? terms.count : 1;
         int x = seed;
         int world = state.here;
         int voids = 0;
         int harms = 0;
         for (int i = 0; i < m; i++) {
             x = (75 * x + 74) % 65537;
-            int made = spirit.ofTerm(x % terms.count, world);
+            int made = spirit.ofTerm(x % count, world);
             if (made < 0) {
                 voids++;
             } else {
