@@ -140,6 +140,9 @@ public final class BoundaryCousinsTest extends Boundary {
             agreedIs(x, NONE, NONE);
             due("OUTSIDE, though all are", x.agreed(2), OUTSIDE);
         });
+        test("AGREED: of as many WORDS as there are THINGS", () -> {
+            for (int n = 2; n <= 6; n++) agreedIs(even(n, 0, 1), (power(n) - 1) / 2, 6);
+        });
         test("AGREED: nobody can gain: no WORDS, no VOTES", () -> agreedIs(new WishLamp(), 0, 0));
         test("AGREED: the most VOTES, though it is worth less to all", () -> {
             WishLamp x = new WishLamp();
@@ -230,6 +233,20 @@ public final class BoundaryCousinsTest extends Boundary {
             due("more", x.paid(), 5);
             x.worth(0, 0, 0);
             due("nothing", x.paid(), NONE);
+        });
+        test("PAID: they gain what it is worth more than NOW, no more", () -> {
+            WishLamp x = wish(new WishLamp(), "&a&b&-c-d");
+            x.worth(0, 0, 7);
+            x.worth(0, 1, 3);
+            x.worth(1, 0, 5);
+            x.worth(1, 1, -3);
+            x.sixths(3, 3, 0, 0);
+            x.now(1);
+            due("3 of 3", x.paid(), 3);
+            x.worth(0, 1, 2);
+            due("3 of 2", x.paid(), NONE);
+            x.worth(0, 0, -7);
+            due("3 of 2", x.paid(), NONE);
         });
         test("PAID: for the WORLD of nothing", () -> {
             WishLamp x = wish(even(4, 3, -2), "&-a&-b&-c-d");
@@ -431,6 +448,29 @@ public final class BoundaryCousinsTest extends Boundary {
             x.set(0, 1);
             law(x, "a");
             fitsAre(x, count, least, 3, 6);
+            wish(x, "1");
+            fitsAre(x, count, least, 3, 6);
+            wish(x, "-b");
+            fitsAre(x, count, least, 3, 6);
+        });
+        test("PICKED: each of its own WISH, NOW and STILL", () -> {
+            WishLamp x = wish(lamp(2), "a");
+            x.picked(3);
+            // b is liked
+            fitsAre(x, 3, 2, 7, 4);
+            wish(x, "b").picked(2);
+            // a is not
+            fitsAre(x, 2, 2, 3, 4);
+            x.set(2, 0);
+            x.now(1);
+            wish(x, "1").picked(1);
+            fitsAre(x, 2, 2, 3, 4);
+            wish(x, "|a-a").picked(0);
+            fitsAre(x, 2, 2, 3, 4);
+            wish(x, "|b-b").picked(3);
+            fitsAre(x, 2, 2, 3, 4);
+            x.picked(1);
+            fitsAre(x, 0, NONE, 0, 0);
         });
     }
 
@@ -583,6 +623,17 @@ public final class BoundaryCousinsTest extends Boundary {
             due("letters", x.letters(0), 81);
             for (int i = 1; i <= 6; i++) due("picked", x.picked(0), i);
             for (int i = 1; i <= 6; i++) due("came", x.came(0, 0), i);
+        });
+        test("32: what is seen behind it is seen by itself", () -> {
+            WishLamp x = wish(lamp(2), "1");
+            x.picked(3);
+            x.came(0, 3);
+            x.forget();
+            wish(x, "a").picked(1);
+            // b is not liked
+            fitsAre(x, 6, 0, 7, 3);
+            x.came(0, 1);
+            due("a; a, not b", x.letters(0), 2);
         });
         test("32: of one kind alone", () -> {
             WishLamp x = wish(new WishLamp(), "1");

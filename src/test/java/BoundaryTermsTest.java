@@ -265,6 +265,20 @@ public final class BoundaryTermsTest extends Boundary {
             x.set(2, 6);
             rowIs(x, 3, 0, 964, 0);
         });
+        test("ROW: what is worst in the end, though it is better first", () -> {
+            WishLamp x = law(lamp(2), "|ab");
+            x.worth(0, 0, 2);
+            x.worth(0, 1, 1);
+            x.set(2, 1);
+            x.now(1);
+            // from a to b it must go through both
+            for (int way = 0; way <= 2; way++) {
+                x.set(0, way);
+                rowIs(x, 1, 0, 1002, 0);
+                rowIs(x, 2, 0, 1001, 0);
+                rowIs(x, 3, 0, 1001, 0);
+            }
+        });
         test("ROW: one WORD against one that stirs", () -> {
             WishLamp x = even(4, 0, -9);
             x.set(2, 1);
@@ -383,6 +397,34 @@ public final class BoundaryTermsTest extends Boundary {
             lampsAre(x, 3, 0, 1000, 0);
             lampsAre(x, 3, 4, 1000, 0);
             lampsAre(law(x, "b"), 3, 4, 997, 0);
+        });
+        test("LAMPS: the second one makes the WORLD of nothing, and nothing behind it is better", () -> {
+            WishLamp x = cousins();
+            x.set(2, 0);
+            x.now(1);
+            for (int w = 1; w <= 4; w++) lampsAre(x, 1, w, 1000, 0);
+        });
+        test("LAMPS: The TERM of no WORDS is a WISH, too: something happens by it", () -> {
+            WishLamp x = new WishLamp();
+            x.worth(0, 2, 5);
+            x.set(2, 1);
+            x.now(12);
+            // left to itself c would stay: the second one's wish takes d away, as 4 is less than 8
+            for (int way = 0; way <= 2; way++) {
+                x.set(0, way);
+                lampsAre(x, 1, 0, 1000, 0);
+            }
+            x.set(2, 0);
+            lampsAre(x, 1, 0, 1005, 0);
+        });
+        test("LAMPS: THE SPIRIT then making what is worst for him", () -> {
+            WishLamp x = cousins();
+            x.worth(2, 0, 1);
+            x.worth(2, 1, -1);
+            // b; not b (as good as a, and less); a, not b
+            lampsAre(x, 2, 0, 997, 0);
+            lampsAre(x, 2, 1, 1000, 0);
+            lampsAre(x, 2, 2, 1005, 0);
         });
         test("LAMPS: of several TERMS by fewest WORDS", () -> {
             WishLamp x = cousins();

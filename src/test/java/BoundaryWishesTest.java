@@ -505,6 +505,14 @@ public final class BoundaryWishesTest extends Boundary {
         test("18: NONE: there is no such sign", () -> {
             for (String text : new String[] {"a", "d", "0", "1", "~a"}) commaIs(cousins(), text, NONE, NONE, NONE);
         });
+        test("18: signs that went are no signs of the WISH", () -> {
+            WishLamp x = wish(cousins(), "a-");
+            commaIs(x, "a", NONE, NONE, NONE);
+            wish(x, "-b&");
+            commaIs(x, "-b", 0, 0, 997);
+            wish(x, times(40, "-"));
+            commaIs(x, "~d", NONE, NONE, NONE);
+        });
         test("18: NONE: all are VOID then", () -> {
             commaIs(cousins(), "-0", NONE, NONE, NONE);
             commaIs(cousins(), "-1", 0, 0, 997);
