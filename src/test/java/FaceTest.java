@@ -1,12 +1,19 @@
+import java.io.IOException;
 import java.lang.reflect.Constructor;
 import java.lang.reflect.Field;
 import java.lang.reflect.Method;
 import java.lang.reflect.Modifier;
+import java.nio.file.Files;
+import java.nio.file.Path;
+import java.util.ArrayList;
 import java.util.Arrays;
+import java.util.List;
 import java.util.Set;
 import java.util.TreeSet;
+import java.util.regex.Matcher;
+import java.util.regex.Pattern;
 
-/** The face is that of the document, no more and no less. */
+/** The face is that of the document, no more and no less, in its order and under its headings. */
 public final class FaceTest {
     private static final String[] FACE = {
         "int things(int)", "int worth(int,int,int)", "int taste(int,int)", "int set(int,int)", "int now(int)",
@@ -75,7 +82,55 @@ public final class FaceTest {
         check(found.equals(new TreeSet<>(Arrays.asList(CONSTANTS))), "constants are " + found);
     }
 
-    public static void main(String[] args) throws IllegalAccessException {
+    /** The lines of the document's face: constants, the constructor, methods. */
+    private static List<String> facePrinted(String document) {
+        List<String> lines = new ArrayList<>();
+        int from = document.indexOf("public final class WishLamp {\n");
+        int to = document.indexOf("\n}\n", from);
+        check(from >= 0 && to > from, "the document has no face");
+        if (from < 0 || to <= from) return lines;
+        for (String line : document.substring(from, to).split("\n")) lines.add(line.trim());
+        return lines;
+    }
+
+    /** The same lines as they must stand in the text of the class: what has a body ends in a brace there. */
+    private static List<String> faceDue(String document) {
+        List<String> due = new ArrayList<>();
+        for (String line : facePrinted(document)) {
+            boolean hasBody = line.contains("(") && !line.startsWith("public static");
+            due.add(hasBody ? line.replace(";", " {") : line);
+            Matcher m = Pattern.compile("(\\w+)\\(").matcher(line);
+            String heading = m.find() ? headingAhead(document, m.group(1)) : "";
+            if (!heading.isEmpty()) due.add(due.size() - 1, "// " + heading);
+        }
+        return due;
+    }
+
+    /** What the interface says ahead of this call, if it is the first one there. */
+    private static String headingAhead(String document, String call) {
+        Matcher m = Pattern.compile("Ahead of the calls `" + call + "`.* the interface says: (---- \\d [^.]*)\\.").matcher(document);
+        return m.find() ? m.group(1) : "";
+    }
+
+    private static void order(String document, String text) {
+        List<String> found = new ArrayList<>();
+        for (String line : text.split("\n")) {
+            String t = line.trim();
+            if (t.startsWith("public ") || t.matches("// ---- \\d .*")) found.add(t);
+        }
+        List<String> due = faceDue(document);
+        check(due.size() == 1 + 2 + 1 + FACE.length + 4, "the document's face has " + due.size() + " lines");
+        check(found.equals(due), "the face in the text is " + found + ", due is " + due);
+        int methods = 0;
+        for (String line : due) {
+            if (!line.startsWith("public int ") && !line.startsWith("public long ")) continue;
+            String told = line.replaceAll("public | \\{", "").replaceAll(" \\w+([,)])", "$1").replace(", ", ",");
+            check(methods < FACE.length && FACE[methods].equals(told), "the document has " + told);
+            methods++;
+        }
+    }
+
+    public static void main(String[] args) throws IllegalAccessException, IOException {
         check(Modifier.isPublic(WishLamp.class.getModifiers()), "the class is not public");
         check(Modifier.isFinal(WishLamp.class.getModifiers()), "the class is not final");
         Constructor<?>[] makers = WishLamp.class.getDeclaredConstructors();
@@ -83,6 +138,7 @@ public final class FaceTest {
             && Modifier.isPublic(makers[0].getModifiers()), "there is not just the one constructor");
         methods();
         fields();
+        order(Files.readString(Path.of("../shared/DOC.md")), Files.readString(Path.of("src/main/java/WishLamp.java")));
         System.out.println(wrong == 0 ? "the face is as due" : wrong + " faults in the face");
         if (wrong != 0) System.exit(1);
     }
