@@ -140,4 +140,26 @@ abstract class Boundary {
         for (int t = 0; t < things; t++) p *= 3;
         return p;
     }
+
+    // ---- answers that come in twos
+
+    static void rowIs(WishLamp x, int k, int words, int value, int term) {
+        due("row(" + k + ", " + words + ", 0)", x.row(k, words, 0), value);
+        due("row(" + k + ", " + words + ", 1)", x.row(k, words, 1), term);
+    }
+
+    static void lampsAre(WishLamp x, int cousin, int words, int value, int term) {
+        due("lamps(" + cousin + ", " + words + ", 0)", x.lamps(cousin, words, 0), value);
+        due("lamps(" + cousin + ", " + words + ", 1)", x.lamps(cousin, words, 1), term);
+    }
+
+    static void lettersAre(WishLamp x, int count, int term) {
+        due("how many", x.letters(0), count);
+        due("the term", x.letters(1), term);
+    }
+
+    static void partsAre(long upper, long lower, long wantUpper, long wantLower) {
+        due("upper", upper, wantUpper);
+        due("lower", lower, wantLower);
+    }
 }

@@ -527,11 +527,6 @@ public final class BoundaryCousinsTest extends Boundary {
         test("30: a FAULT on the PAD is nothing to it", () -> due("came", wish(new WishLamp(), "&").came(0, 1), 1));
     }
 
-    private static void lettersAre(WishLamp x, int count, int term) {
-        due("how many", x.letters(0), count);
-        due("the term", x.letters(1), term);
-    }
-
     private static void promise31() {
         test("31: what 0, 1", () -> {
             WishLamp x = new WishLamp();
@@ -657,11 +652,6 @@ public final class BoundaryCousinsTest extends Boundary {
     }
 
     // ---- promises 33, 34: drunk, mean
-
-    private static void partsAre(long upper, long lower, long wantUpper, long wantLower) {
-        due("upper", upper, wantUpper);
-        due("lower", lower, wantLower);
-    }
 
     private static void promise33() {
         test("33: UNKNOWN", () -> {

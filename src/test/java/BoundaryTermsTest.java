@@ -212,11 +212,6 @@ public final class BoundaryTermsTest extends Boundary {
 
     // ---- promise 22: row
 
-    private static void rowIs(WishLamp x, int k, int words, int value, int term) {
-        due("row(" + k + ", " + words + ", 0)", x.row(k, words, 0), value);
-        due("row(" + k + ", " + words + ", 1)", x.row(k, words, 1), term);
-    }
-
     private static void promise22() {
         test("22: k 1 to 3", () -> {
             WishLamp x = new WishLamp();
@@ -338,11 +333,6 @@ public final class BoundaryTermsTest extends Boundary {
     }
 
     // ---- promise 23: lamps
-
-    private static void lampsAre(WishLamp x, int cousin, int words, int value, int term) {
-        due("lamps(" + cousin + ", " + words + ", 0)", x.lamps(cousin, words, 0), value);
-        due("lamps(" + cousin + ", " + words + ", 1)", x.lamps(cousin, words, 1), term);
-    }
 
     private static void promise23() {
         test("23: UNKNOWN: the second COUSIN", () -> {

@@ -86,30 +86,10 @@ public final class DocumentTest extends Boundary {
         due("worth of " + text, x.comma(2), value);
     }
 
-    private static void rowIs(WishLamp x, int k, int words, int value, int term) {
-        due("row(" + k + ", " + words + ", 0)", x.row(k, words, 0), value);
-        due("row(" + k + ", " + words + ", 1)", x.row(k, words, 1), term);
-    }
-
-    private static void lampsAre(WishLamp x, int cousin, int words, int value, int term) {
-        due("lamps(" + cousin + ", " + words + ", 0)", x.lamps(cousin, words, 0), value);
-        due("lamps(" + cousin + ", " + words + ", 1)", x.lamps(cousin, words, 1), term);
-    }
-
-    private static void termsAre(WishLamp x, int count, int term) {
-        due("letters(0)", x.letters(0), count);
-        due("letters(1)", x.letters(1), term);
-    }
-
     private static void tastesAre(WishLamp x, int count, int least, int... each) {
         due("fit(-1)", x.fit(-1), count);
         due("fit(-2)", x.fit(-2), least);
         for (int t = 0; t < each.length; t++) due("fit(" + t + ")", x.fit(t), each[t]);
-    }
-
-    private static void partsAre(long upper, long lower, long wantUpper, long wantLower) {
-        due("upper", upper, wantUpper);
-        due("lower", lower, wantLower);
     }
 
     interface At {
@@ -413,6 +393,9 @@ public final class DocumentTest extends Boundary {
             law(x, "a");
             keeps(x, "|b1");
             keeps(x, "|a|b1", 1, 3);
+            WishLamp y = lamp(6);
+            y.set(2, 0);
+            for (String text : new String[] {"&a1", "|a0", ">1a", "=a1", "^a0", "--a"}) keeps(y, text, 1);
         });
         reads("STILL (0 to 6; 6 at first): so many THINGS that are not SAID, at most, are otherwise than NOW in a WORLD that KEEPS a WISH; "
             + "it keeps the CLAUSE and THE LAW, too.", () -> {
@@ -510,6 +493,9 @@ public final class DocumentTest extends Boundary {
             for (int c = 0; c < 3; c++) {
                 for (int i = 0; i < 4; i++) due("extreme(" + c + ", " + i / 2 + ", " + i % 2 + ")", x.extreme(c, i / 2, i % 2), want[c][i]);
             }
+            wish(x, "=ab");
+            due("the world of nothing is the worst", x.extreme(0, 0, 1), 0);
+            due("worth 0", x.extreme(0, 0, 0), 1000);
         });
         reads("HARMED: COUSINS for whom what THE SPIRIT makes is worth less than NOW.", () -> {
             WishLamp x = wish(three(), "c");
@@ -522,6 +508,7 @@ public final class DocumentTest extends Boundary {
             due("as much to 2: 0, 3", x.harmed(), 9);
             x.now(6);
             due("as now: nobody", x.harmed(), 0);
+            due("the world of nothing: 1, 2 lose b", wish(x, "&-a-b").harmed(), 6);
         });
         reads("GRANTED: what THE SPIRIT makes is NOW.", () -> {
             WishLamp x = three();
@@ -529,6 +516,8 @@ public final class DocumentTest extends Boundary {
             due("now", x.told(2), 3);
             due("not ~b", wish(x, "-~b").grant(), 0);
             due("now", x.told(2), 0);
+            due("as it is now", wish(x, "&~a&~b~c").grant(), 0);
+            due("granted all the same", x.told(6), 3);
         });
         reads("UNDONE: NOW is as ahead of the latest WISH that was GRANTED and not UNDONE (16 at most are kept; of more the latest ones).", () -> {
             WishLamp x = lamp(5);
@@ -558,10 +547,28 @@ public final class DocumentTest extends Boundary {
                 x.set(1, 1);
                 // just one: b alone is worth 3, a alone -1; both: 2
                 commaIs(x, "^ab", 0, '&', 1002);
+                // from 4, where nothing that is not said stirs: c stays
+                WishLamp y = three();
+                y.set(2, 0);
+                y.now(4);
+                commaIs(y, "|ab", 0, '&', 1003);
+                commaIs(y, "-~a", 0, 0, 1001);
+                y.now(1);
+                commaIs(y, "-~a", 0, 0, 1004);
+                // signs that went are no signs of the wish
+                wish(y, "a-");
+                commaIs(y, "a", NONE, NONE, NONE);
+                // the nearest to 7: without the first - it is 5
+                WishLamp z = three();
+                z.set(0, 2);
+                z.now(7);
+                commaIs(z, "&-a-b", 1, 0, 1005);
             });
         reads("the place, and which sign (0: left out);", () -> {
             // both: a, not c: 2; without -: a, c: 3
             commaIs(three(), "&a-c", 2, 0, 1003);
+            // a, and if b, not b: 4
+            commaIs(three(), "&a|b-b", 2, '>', 1004);
             // if b, not b: not b: 0
             commaIs(three(), "&b-b", 0, '>', 1000);
         });
@@ -609,6 +616,10 @@ public final class DocumentTest extends Boundary {
                 due("a, not b; c is not said", x.term(15), 5);
                 due("nothing is said", x.term(0), 6);
                 due("not c; a, b are not said", x.term(2), 2);
+                WishLamp y = even(6, 0, 1);
+                y.set(2, 1);
+                y.now(63);
+                for (int t = 0; t < 6; t++) due("it goes, and the highest of the others", y.term(2 * power(5 - t)), t < 5 ? 31 - (1 << t) : 15);
             });
         reads("Its WORDS are how many are SAID.", () -> {
             WishLamp x = three();
@@ -627,6 +638,14 @@ public final class DocumentTest extends Boundary {
                 x.set(1, 1);
                 due("for 1: b", x.wording(2, 0), 3);
                 due("for 1: not a, b", x.wording(3, 0), 21);
+                x.set(1, 0);
+                x.set(2, 0);
+                x.now(4);
+                due("from 4, where c stays: a", x.wording(5, 0), 9);
+                x.now(6);
+                due("from 6: a, not b", x.wording(5, 0), 15);
+                WishLamp y = even(6, 0, 9);
+                due("all six", y.wording(54, 0), 364);
             });
         reads("MOST of w WORDS at most (0 to 6): what is worth most to THE WISHER, and by which TERM (fewest WORDS, then the least number).", () -> {
             WishLamp x = three();
@@ -640,6 +659,13 @@ public final class DocumentTest extends Boundary {
             WishLamp y = even(3, 0, 1);
             due("any one: the least number", y.most(1, 1), 1);
             due("any two", y.most(2, 1), 4);
+            x.set(2, 0);
+            x.now(6);
+            due("from 6: a", x.most(1, 0), 1003);
+            due("from 6: a, not b", x.most(2, 0), 1005);
+            WishLamp z = even(6, 0, -9);
+            due("none of six", z.most(6, 0), 1000);
+            due("none of six", z.most(6, 1), 728);
         });
     }
 
@@ -706,7 +732,14 @@ public final class DocumentTest extends Boundary {
             law(x, "b");
             rowIs(x, 1, 0, 1005, NONE);
             rowIs(x, 3, 0, 1005, NONE);
+            x.now(0);
+            rowIs(x, 2, 0, 1000, NONE);
+            WishLamp y = even(6, 0, 9);
+            rowIs(y, 1, 6, 1054, 364);
+            rowIs(y, 3, 6, 1054, 0);
+            lampsAre(y, 1, 6, 1000, 0);
             law(x, "0");
+            x.now(5);
             for (int k = 1; k <= 3; k++) rowIs(x, k, 6, 1005, NONE);
         });
     }
@@ -769,6 +802,10 @@ public final class DocumentTest extends Boundary {
             for (int c = 0; c < 4; c++) due("then", x.told(20 + c), shares[c]);
             due("five", x.sixths(0, 3, 1, 1), OUTSIDE);
             due("seven of one", x.sixths(7, 0, 0, -1), OUTSIDE);
+            due("less than none of a", x.sixths(-1, 5, 2, 0), OUTSIDE);
+            due("less than none of b", x.sixths(5, -1, 2, 0), OUTSIDE);
+            due("less than none of c", x.sixths(5, 2, -1, 0), OUTSIDE);
+            due("less than none of d", x.sixths(5, 2, 0, -1), OUTSIDE);
         });
         reads("VOTES for the WISH on the PAD: SIXTHS of those for whom what THE SPIRIT makes is worth more than NOW.", () -> {
             WishLamp x = wish(three(), "a");
@@ -782,6 +819,8 @@ public final class DocumentTest extends Boundary {
             due("0 alone gains: 2 has b, 1 loses", x.votes(), 1);
             x.now(3);
             due("as now", x.votes(), 0);
+            x.worth(0, 0, -1);
+            due("the world of nothing: 0 alone wants neither a nor b", wish(x, "&-a&-b-c").votes(), 1);
         });
         reads("AGREED: the TERM with the most VOTES, of several of which it is worth most to all COUSINS together, then of the fewest WORDS, then the "
             + "least number; its VOTES.", () -> {
@@ -803,6 +842,15 @@ public final class DocumentTest extends Boundary {
                 WishLamp z = law(lamp(3), "=ab");
                 z.worth(0, 0, 1);
                 due("b, ahead of a", z.agreed(0), 3);
+                WishLamp u = even(3, 0, -1);
+                due("nothing said: no votes, and the worst of all; none of them said: the world of nothing", u.agreed(0), 26);
+                due("no votes", u.agreed(1), 0);
+                u.set(2, 0);
+                due("nothing stirs: nothing said", u.agreed(0), 0);
+                u.now(6);
+                due("not b, not c", u.agreed(0), 8);
+                due("all votes", u.agreed(1), 6);
+                due("all six", even(6, 0, 1).agreed(0), 364);
             });
         reads("PAID: the least pence (each of worth one) that those who gain by the WISH must pay in all so that nobody with a SIXTH loses by it; NONE: "
             + "they gain less in all than that (those without a SIXTH neither pay nor are paid).", () -> {
@@ -815,8 +863,12 @@ public final class DocumentTest extends Boundary {
                 due("1 loses 5", x.paid(), NONE);
                 x.worth(2, 0, 1);
                 due("2 has no sixth", x.paid(), NONE);
-                x.sixths(2, 2, 2, 0);
+                x.sixths(4, 1, 1, 0);
                 due("0 and 2 gain 5", x.paid(), 5);
+                x.now(1);
+                due("the world of nothing: 1 gains 5, 0 loses 4, 2 loses 1", wish(x, "&-a&-b-c").paid(), 5);
+                x.now(0);
+                wish(x, "&a-b");
                 x.sixths(6, 0, 0, 0);
                 due("1 has no sixth", x.paid(), 0);
                 x.sixths(0, 6, 0, 0);
@@ -833,6 +885,10 @@ public final class DocumentTest extends Boundary {
             x.forget();
             x.picked(6);
             tastesAre(x, 2, 8, 3, 4, 4);
+            WishLamp y = wish(lamp(6), "1");
+            tastesAre(y, 729, 0, 7, 7, 7, 7, 7, 7);
+            y.picked(33);
+            tastesAre(y, 16, 488, 4, 3, 3, 3, 3, 4);
         });
         reads("PICKED: SIGHTS (6 at most): of the WISH on the PAD, NOW, THE LAW, STILL as they are, THE SPIRIT by its TASTE picked a WORLD.", () -> {
             WishLamp x = law(lamp(3), "a");
@@ -871,12 +927,14 @@ public final class DocumentTest extends Boundary {
             WishLamp x = lamp(3);
             x.set(2, 0);
             due("came", x.came(0, 1), 1);
-            termsAre(x, 4, 9);
+            lettersAre(x, 4, 9);
             due("came", x.came(6, 5), 2);
             // a, not b: c is 0 in the one and 1 in the other
-            termsAre(x, 1, 15);
+            lettersAre(x, 1, 15);
             due("came", x.came(7, 7), 3);
-            termsAre(x, 0, NONE);
+            lettersAre(x, 0, NONE);
+            wish(x, "1");
+            for (int i = 1; i <= 6; i++) due("picked", x.picked(0), i);
             for (int i = 4; i <= 6; i++) due("came", x.came(0, 1), i);
             due("a seventh", x.came(0, 1), FULL);
         });
@@ -884,24 +942,27 @@ public final class DocumentTest extends Boundary {
             + "the least number.", () -> {
                 WishLamp x = three();
                 x.came(0, 3);
-                termsAre(x, 4, 9);
+                lettersAre(x, 4, 9);
                 x.set(1, 1);
-                termsAre(x, 4, 3);
+                lettersAre(x, 4, 3);
                 x.set(1, 0);
                 x.set(2, 0);
-                termsAre(x, 2, 12);
+                lettersAre(x, 2, 12);
                 x.set(2, 6);
                 x.set(0, 2);
-                termsAre(x, 2, 12);
+                lettersAre(x, 2, 12);
                 x.set(0, 1);
-                termsAre(x, 2, 12);
+                lettersAre(x, 2, 12);
                 x.taste(1, 1);
-                termsAre(x, 4, 9);
+                lettersAre(x, 4, 9);
                 x.set(0, 0);
                 law(x, "&ab");
-                termsAre(x, 8, 0);
+                lettersAre(x, 8, 0);
                 law(x, "-a");
-                termsAre(x, 0, NONE);
+                lettersAre(x, 0, NONE);
+                // nothing came: all terms, though they are void
+                x.forget();
+                lettersAre(law(x, "0"), 27, 0);
             });
     }
 
@@ -919,6 +980,7 @@ public final class DocumentTest extends Boundary {
                     partsAre(x.mean(1, 0), x.mean(1, 1), 3005, 3);
                     partsAre(x.mean(2, 0), x.mean(2, 1), 1000, 1);
                 }
+                x.set(1, 0);
                 law(x, "b");
                 x.set(2, 0);
                 x.now(1);
@@ -952,6 +1014,12 @@ public final class DocumentTest extends Boundary {
                 due("from now", x.year(0, 1, 1), 0);
                 due("c goes", x.year(0, 1, 2), 1);
                 due("now is as it was", x.told(2), 4);
+                law(x, "1");
+                x.now(5);
+                // from 5 to 0 and not to 1, from 0 to 2 and not to 3
+                due("each from where the last one came to", x.year(0, 2, 1), 0);
+                due("each from where the last one came to", x.year(0, 3, 1), 2);
+                due("twice", x.year(0, 3, 2), 2);
                 within(0, 9999, OUTSIDE, v -> x.year(v, 1, 0));
                 within(1, 99, OUTSIDE, v -> x.year(0, v, 0));
             });
@@ -1122,6 +1190,18 @@ public final class DocumentTest extends Boundary {
             due("worlds", x.told(9), 3);
             due("signs", wish(x, "-b").enact(), 2);
             keeps(x, "1", 0, 1);
+            // a, as it is now: so it is never, when now has no a, but it was enacted when now had
+            law(x, "&a~a");
+            due("worlds", x.told(9), 2);
+            x.now(0);
+            due("for good", x.told(9), 2);
+            x.image(0);
+            x.restore(0);
+            due("for good, in an image, too", x.told(9), 2);
+            keeps(x, "1", 1, 3);
+            wish(x, "b").grant();
+            law(x, "b");
+            due("what can be undone stays", x.undo(), 0);
         });
         reads("NO: there is a FAULT.", () -> {
             WishLamp x = law(lamp(2), "a");
@@ -1209,10 +1289,12 @@ public final class DocumentTest extends Boundary {
             x.now(6);
             wish(x, "a").grant();
             wish(x, "-a").grant();
+            wish(x, "|a");
             due("the world", x.undo(), 3);
             due("now", x.told(2), 3);
             due("the world", x.undo(), 6);
             due("now", x.told(2), 6);
+            due("the pad stays", x.told(0), 2);
         });
         reads("STATE: there is nothing.", () -> {
             WishLamp x = three();
@@ -1388,6 +1470,7 @@ public final class DocumentTest extends Boundary {
             WishLamp x = wish(lamp(3), "1");
             within(0, 7, OUTSIDE, v -> x.picked(v));
             due("fault", wish(x, "|").picked(0), NO);
+            due("a 25th sign", wish(x, times(24, "-") + "a").picked(1), NO);
             due("does not keep it", wish(x, "a").picked(0), NO);
             due("void", wish(x, "0").picked(0), NO);
             wish(x, "a");
@@ -1429,12 +1512,12 @@ public final class DocumentTest extends Boundary {
         promise(31, "letters", "int letters(int what)");
         reads("LETTERS: how many (what = 0), the TERM (1; NONE).", () -> {
             WishLamp x = three();
-            termsAre(x, 27, 0);
+            lettersAre(x, 27, 0);
             x.came(5, 2);
             // nothing; of a and c not so or nothing, of b so or nothing: 2 is the worst of all
-            termsAre(x, 8, 0);
+            lettersAre(x, 8, 0);
             x.came(5, 3);
-            termsAre(x, 0, NONE);
+            lettersAre(x, 0, NONE);
         });
         reads("OUTSIDE.", () -> {
             WishLamp x = three();
@@ -1450,7 +1533,7 @@ public final class DocumentTest extends Boundary {
             due("picked", x.told(7), 0);
             due("came", x.told(8), 0);
             tastesAre(x, 27, 0, 7, 7, 7);
-            termsAre(x, 27, 0);
+            lettersAre(x, 27, 0);
             due("none", x.forget(), 0);
         });
     }
@@ -1533,6 +1616,19 @@ public final class DocumentTest extends Boundary {
             for (int i = 0; i < 70; i++) due("told(" + i + ")", x.told(i), before[i]);
             int[] again = {x.fit(-1), x.fit(-2), x.letters(0), x.letters(1), x.makes(), x.year(7, 30, 1)};
             for (int i = 0; i < more.length; i++) due("answer " + i, again[i], more[i]);
+            due("undo", x.undo(), 0);
+            x.worth(0, 0, 9);
+            x.taste(0, 9);
+            x.sixths(0, 0, 0, 6);
+            x.forget();
+            x.came(9, 9);
+            x.now(7);
+            wish(x, "a").grant();
+            law(x, "0");
+            due("once more", x.restore(0), 1);
+            for (int i = 1; i < 70; i++) due("told(" + i + ")", x.told(i), before[i]);
+            due("from where to where it came", x.letters(0), more[2]);
+            due("from where to where it came", x.letters(1), more[3]);
             due("undo", x.undo(), 0);
         });
         reads("OUTSIDE; STATE: it was not.", () -> {
